@@ -381,6 +381,10 @@ public final class LentViews {
         return (bits >> (moves - 1) & 1) == 1;
     }
 
+    private static void copyAll(int[] from, int[] to) {
+        System.arraycopy(from, 0, to, 0, Math.min(from.length, to.length));
+    }
+
     /** VALUES, VERSIONS and VIEWS: of the cells themselves, or as a collect has read them. */
     private static final class Cells {
         final int[] values = new int[MOST_CELLS];
@@ -752,9 +756,5 @@ public final class LentViews {
         private int versionBehind(int version) {
             return wrap == 0 ? version + 1 : (version + 1) % wrap;
         }
-    }
-
-    private static void copyAll(int[] from, int[] to) {
-        System.arraycopy(from, 0, to, 0, Math.min(from.length, to.length));
     }
 }

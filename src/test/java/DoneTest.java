@@ -4,6 +4,7 @@ public final class DoneTest {
         aNewObject();
         begins();
         beginsMakesAllAsAtFirst();
+        beginsForgetsThePast();
         beginsCanBeUndone();
         scans();
         writes();
@@ -12,6 +13,7 @@ public final class DoneTest {
         stepsByMoves();
         versionsCountOnOrWrap();
         undoOfEachKind();
+        undoIsWhole();
         undoKnowsFive();
         Due.end();
     }
@@ -46,6 +48,14 @@ public final class DoneTest {
             "begins(4,1,0)=4 writes(3,7)=0 steps(3,20)=9 writes(2,6)=9 steps(2,20)=9 scans(0)=18 steps(0,6)=6",
             "begins(2,1,0)=2 scans(0)=0 steps(0,20)=4 photo(0,6)=0 photo(0,8)=0 photo(0,9)=0 photo(0,10)=0",
             "writes(1,5)=4 steps(1,20)=5 cell(1,4)=0 cell(1,5)=0 photo(1,8)=0 photo(1,9)=0");
+    }
+
+    private static void beginsForgetsThePast() {
+        Script.run("begins: views are 0 again",
+            "begins(4,1,0)=4 writes(3,7)=0 steps(3,20)=9 writes(2,6)=9 steps(2,20)=9 cell(2,5)=7 begins(4,1,0)=4 cell(2,5)=0 cell(2,0)=0 cell(3,1)=0");
+        Script.run("begins: moments are told by what was written since",
+            "begins(2,1,0)=2 writes(1,5)=0 steps(1,20)=5 begins(2,1,0)=2 scans(0)=0 steps(0,20)=4 scans(0)=4 steps(0,20)=4 scans(0)=8 steps(0,20)=4 photo(2,7)=0 photo(2,10)=8 count(6)=0",
+            "writes(1,6)=12 steps(1,20)=5 scans(0)=17 steps(0,20)=4 photo(4,7)=6 photo(4,10)=17");
     }
 
     private static void beginsCanBeUndone() {
@@ -141,6 +151,19 @@ public final class DoneTest {
             "scans(0)=0 steps(0,21)=BAD scans(0)=STATE begins(9,9,9)=BAD steps(1,1)=STATE writes(0,1)=STATE count(10)=1 undo()=0 writer(0,0)=0 undo()=STATE");
         Script.run("looking, guessing and keeping are not undone",
             "scans(0)=0 sees(1,1,1)=1 keep(0)=0 lone(0)=6 byTurns()=6 trial(1,1,1)=6 which()=0 forget()=1 count(10)=1 sees(2,2,2)=1 undo()=0 count(9)=1 back(0)=0 writer(0,0)=1");
+    }
+
+    /** In each the undone call, or another in its place, has written over what must come back. */
+    private static void undoIsWhole() {
+        Script.run("undo: views",
+            "begins(2,1,0)=2 writes(0,3)=0 steps(0,20)=5 writes(1,5)=5 steps(1,20)=5 writes(0,4)=10 steps(0,20)=5 writes(1,6)=15 steps(1,20)=5 cell(1,2)=4 undo()=4 cell(1,2)=3 cell(1,0)=5 cell(1,3)=0");
+        Script.run("undo: what a collect has read",
+            "begins(2,4,0)=2 scans(1)=0 steps(1,1)=1 writes(0,7)=1 steps(0,20)=5 steps(1,2)=2 read(1,0,0)=7 read(1,0,1)=1 undo()=4 read(1,0,0)=0 read(1,0,1)=0 steps(1,1)=1 steps(1,2)=2 writer(1,4)=1");
+        Script.run("undo: the photo that is to be lent",
+            "begins(2,1,0)=2 writes(0,3)=0 steps(0,20)=5 writes(1,5)=5 steps(1,4)=4 steps(1,1)=1 cell(1,2)=3 undo()=4 cell(1,2)=0 writer(1,3)=2 steps(1,1)=1 cell(1,0)=5 cell(1,2)=3 cell(1,3)=0",
+            "writes(0,4)=10 steps(0,20)=5 writes(1,6)=15 steps(1,20)=5 cell(1,2)=4 undo()=4 undo()=3 undo()=2 undo()=1 undo()=0 cell(1,2)=0 steps(1,1)=1 cell(1,2)=3");
+        Script.run("undo: photos",
+            "begins(2,1,0)=2 scans(0)=0 steps(0,20)=4 scans(1)=4 steps(1,20)=4 photo(1,0)=1 undo()=4 undo()=3 undo()=2 undo()=1 count(4)=0 scans(1)=0 steps(1,20)=4 photo(0,0)=1 photo(1,0)=BAD");
     }
 
     private static void undoKnowsFive() {

@@ -32,6 +32,15 @@ public final class ImagesTest {
         Script.run("back: on from an image all is as it was",
             "begins(2,1,0)=2 writes(1,5)=0 steps(1,4)=4 writes(0,3)=4 steps(0,5)=5 scans(0)=9 steps(0,2)=2 keep(1)=11 steps(1,1)=1 writes(1,6)=12 steps(1,20)=5 steps(0,20)=2 photo(3,10)=12",
             "back(1)=11 count(3)=11 count(4)=2 count(8)=3 cell(0,0)=3 cell(1,0)=0 writer(0,3)=1 lone(1)=1 steps(1,1)=1 steps(0,2)=2 photo(2,4)=1 photo(2,10)=NONE count(6)=1");
+        Script.run("back: photos that others took the place of",
+            "begins(2,1,0)=2 keep(1)=0 scans(0)=0 steps(0,20)=4 writes(0,9)=4 steps(0,20)=5 keep(0)=9 back(1)=0",
+            "writes(1,5)=0 steps(1,20)=5 scans(1)=5 steps(1,20)=4 photo(0,0)=1 photo(0,5)=1 photo(1,7)=5 back(0)=9 photo(0,0)=0 photo(0,5)=0 photo(0,2)=4 photo(1,0)=0 photo(1,5)=1 photo(1,1)=4 photo(1,2)=8 photo(1,7)=0 photo(1,10)=4");
+        Script.run("back: the past that another took the place of",
+            "begins(2,1,0)=2 keep(1)=0 writes(0,1)=0 steps(0,20)=5 writes(0,2)=5 steps(0,20)=5 writes(1,3)=10 steps(1,20)=5 keep(0)=15 back(1)=0",
+            "writes(1,7)=0 steps(1,20)=5 writes(1,8)=5 steps(1,20)=5 writes(0,9)=10 steps(0,20)=5 writes(0,6)=15 steps(0,20)=5 back(0)=15",
+            "cell(0,0)=2 cell(1,0)=3 cell(1,2)=2 scans(0)=15 steps(0,20)=4 photo(3,6)=2 photo(3,7)=3 photo(3,10)=15 count(6)=0");
+        Script.run("back: the times of the past",
+            "begins(2,3,0)=2 writes(1,5)=0 steps(1,4)=4 scans(0)=4 steps(0,1)=1 steps(1,1)=1 steps(0,1)=1 keep(0)=7 undo()=4 undo()=3 steps(0,1)=1 steps(1,1)=1 back(0)=7 steps(0,20)=2 photo(1,7)=5 photo(1,10)=6");
         Script.run("back: N, MOVES, WRAP",
             "begins(4,1,8)=4 keep(0)=0 undo()=0 count(0)=3 back(0)=0 count(0)=4 count(1)=1 count(2)=8 count(7)=15 scans(3)=0");
     }

@@ -41,6 +41,10 @@ public final class WhatComesTest {
         Script.run("reads", photos + "reads(6,0)=2 reads(9,0)=1 reads(0,0)=0 reads(5,0)=0 reads(99,0)=0",
             "reads(0,1)=6 reads(5,1)=6 reads(6,1)=9 reads(8,1)=9 reads(9,1)=NONE reads(99,1)=NONE",
             "reads(99,2)=9 reads(10,2)=9 reads(9,2)=6 reads(7,2)=6 reads(6,2)=NONE reads(0,2)=NONE");
+        Script.run("reads: the first photo and the last one count, in any order",
+            "writes(1,1)=0 steps(1,6)=6 scans(0)=6 steps(0,3)=3 steps(1,1)=1 steps(0,20)=6 count(4)=2 reads(0,1)=6 reads(6,1)=9 reads(9,2)=6 reads(99,2)=9",
+            "scans(2)=16 steps(2,20)=6 reads(99,2)=9 reads(0,1)=6 reads(6,0)=2 reads(9,0)=1");
+        Script.run("reads: not of a photo that was undone", "scans(0)=0 steps(0,20)=6 undo()=1 reads(6,0)=0 reads(0,1)=NONE reads(99,2)=NONE");
         Script.run("reads: numbers", photos + "reads(-1,0)=BAD reads(100,0)=BAD reads(6,-1)=BAD reads(6,3)=BAD reads(MOST,1)=BAD reads(LEAST,2)=BAD");
         Script.run("reads: the writing step is none of a photo's", "writes(0,1)=0 steps(0,6)=6 reads(6,0)=1 steps(0,1)=1 reads(6,0)=1 reads(7,0)=0");
     }
@@ -52,7 +56,8 @@ public final class WhatComesTest {
         Script.run("trial: two cells",
             "begins(2,2,0)=2 trial(1,1,4)=4 trial(2,1,4)=6 trial(3,1,4)=8 trial(4,1,4)=10",
             "trial(1,1,1)=4 trial(4,1,1)=4 trial(1,1,2)=4 trial(2,1,2)=6 trial(3,1,2)=8 trial(4,1,2)=8",
-            "trial(1,1,3)=4 trial(2,1,3)=6 trial(3,1,3)=8 trial(4,1,3)=10 trial(4,4,4)=4 trial(1,4,1)=4");
+            "trial(1,1,3)=4 trial(2,1,3)=6 trial(3,1,3)=8 trial(4,1,3)=10 trial(4,4,4)=4 trial(1,4,1)=4 trial(2,3,1)=4 trial(3,3,4)=4",
+            "begins(3,2,0)=3 trial(1,4,1)=6 trial(2,4,4)=6 begins(4,2,0)=4 trial(1,3,1)=8");
         Script.run("trial: versions that wrap",
             "begins(2,2,2)=2 trial(1,1,4)=4 trial(2,1,4)=4 trial(3,1,4)=4 trial(4,1,4)=4 trial(1,1,3)=4 trial(2,1,3)=6 trial(3,1,3)=6 trial(4,1,3)=6",
             "begins(2,2,3)=2 trial(4,1,4)=10");
