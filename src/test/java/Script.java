@@ -5,8 +5,8 @@ import java.util.regex.Pattern;
 
 /**
  * A run of calls on a new object, told as text: "scans(0)=0 steps(0, 21)=BAD ..".
- * A twin has all these calls but the refused ones: at the end both must look alike and undo alike,
- * or a refusal has changed something.
+ * Behind a refused call all must look as ahead of it. What cannot be looked at (the past, the images) is
+ * told by a twin that has all calls but the refused ones: at the end both must undo and go back alike.
  */
 final class Script {
     private static final Pattern CALL = Pattern.compile("\\s*(\\w+)\\(([^)]*)\\)\\s*=\\s*(-?\\w+)\\s*");
@@ -41,11 +41,16 @@ final class Script {
 
     private void playOne(String method, String numbers, String answer) {
         int[] arguments = numbers.isBlank() ? new int[0] : numbersOf(numbers);
-        Due.is(name + ": " + method + "(" + numbers + ")", call(x, method, arguments), numberOf(answer));
+        String told = name + ": " + method + "(" + numbers + ")";
         boolean refusal = answer.equals("BAD") || answer.equals("STATE") || answer.equals("FULL");
         if (!refusal) {
+            Due.is(told, call(x, method, arguments), numberOf(answer));
             call(twin, method, arguments);
+            return;
         }
+        List<Integer> ahead = look(x);
+        Due.is(told, call(x, method, arguments), numberOf(answer));
+        Due.isTrue(told + " changes nothing", look(x).equals(ahead));
     }
 
     private static int[] numbersOf(String text) {
@@ -69,7 +74,7 @@ final class Script {
         }
     }
 
-    private static int call(LentViews on, String method, int... arguments) {
+    static int call(LentViews on, String method, int... arguments) {
         Class<?>[] types = new Class<?>[arguments.length];
         Object[] given = new Object[arguments.length];
         for (int i = 0; i < arguments.length; i++) {
@@ -84,14 +89,20 @@ final class Script {
     }
 
     private void compareTwins() {
+        compareToTheEnd(name + ": refusals change nothing", x, twin);
+    }
+
+    /** Also by what can be undone and by the images: both objects are used up by it. */
+    static void compareToTheEnd(String name, LentViews one, LentViews other) {
         for (int undone = 0; undone <= 6; undone++) {
-            Due.isTrue(name + ": refusals change nothing (seen behind " + undone + " undo())", look(x).equals(look(twin)));
-            Due.is(name + ": undo() of both", x.undo(), twin.undo());
+            Due.isTrue(name + " (seen behind " + undone + " undo())", look(one).equals(look(other)));
+            Due.is(name + " (undo() of both)", one.undo(), other.undo());
         }
         for (int image = 0; image < 2; image++) {
-            Due.is(name + ": back() of both", x.back(image), twin.back(image));
-            Due.isTrue(name + ": refusals change no image", look(x).equals(look(twin)));
+            Due.is(name + " (back() of both)", one.back(image), other.back(image));
+            Due.isTrue(name + " (seen behind back())", look(one).equals(look(other)));
         }
+        Due.is(name + " (forget() of both)", one.forget(), other.forget());
     }
 
     /** All that the calls of the face tell without changing anything. */
