@@ -53,7 +53,7 @@ final class Script {
         Due.isTrue(told + " changes nothing", look(x).equals(ahead));
     }
 
-    private static int[] numbersOf(String text) {
+    static int[] numbersOf(String text) {
         String[] parts = text.split(",");
         int[] numbers = new int[parts.length];
         for (int i = 0; i < parts.length; i++) {
@@ -62,7 +62,7 @@ final class Script {
         return numbers;
     }
 
-    private static int numberOf(String text) {
+    static int numberOf(String text) {
         switch (text) {
             case "BAD": return -1;
             case "STATE": return -2;
