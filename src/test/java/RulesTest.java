@@ -38,7 +38,7 @@ import javax.tools.StandardJavaFileManager;
 import javax.tools.ToolProvider;
 
 /**
- * The rules of LANGUAGE.md that the compiler's own tree of the class can tell, 2 to 12. Of the library only
+ * What the compiler's own tree of the class tells of rules 2 to 6, 8, 9, 11 and 12 of LANGUAGE.md. Of the library only
  * the part that the class uses is taken here: who needs more of rules 3 and 4 adds it.
  */
 public final class RulesTest {
